@@ -52,6 +52,7 @@ public final class TrafficTest {
     /** By day: none, then the first two hours, four, ..., twelve at the most. */
     private static void brownouts() {
         ServiceApiary x = small();
+        x.pass(31);
         x.retire(0, 0, 9);
         int[] brown = {0, 2, 4, 6, 8, 10, 12, 12, 12};
         for (int day = 0; day < 9; day++) {

@@ -18,6 +18,7 @@ public final class WhatWouldBeTest {
         goneByWithoutTheWayBack();
         goneByRefuses();
         digest();
+        digestOfSeveralClients();
         nothingIsChanged();
         E.end();
     }
@@ -311,6 +312,57 @@ public final class WhatWouldBeTest {
         d = folded(d, 1, -1);
         d = folded(d, 0, 1, 1);
         E.due("digest()", x.digest(), d);
+    }
+
+    /** Clients with a quota that is used up, with routes of one and of two adapters, and without one. */
+    private static void digestOfSeveralClients() {
+        ServiceApiary x = new ServiceApiary();
+        x.open();
+        x.open();
+        x.publish(0, 255, 0);
+        x.publish(0, 255, 0);
+        x.publish(1, 1, 0);
+        x.client(1, 0, 0, 1);
+        x.client(0, 0, 1, 2);
+        x.client(2, 1, 0, 0);
+        x.adapter(0, 1, 0, 0, 255);
+        x.adapter(0, 0, 1, 4, 1);
+        x.pass(3);
+        x.retire(0, 0, 9);
+        x.call(0, 10);
+        E.due("digest(), the quota used up", x.digest(), dueThen(3, 3, 0));
+        x.pass(17);
+        E.due("digest(), an hour ahead of a brownout in 30 hours", x.digest(), dueThen(20, 0, 0));
+        x.pass(1);
+        E.due("digest(), the first hour of it", x.digest(), dueThen(21, 0, 2));
+        x.pass(3);
+        E.due("digest(), the last hour of it", x.digest(), dueThen(24, 0, 2));
+        x.pass(1);
+        E.due("digest(), an hour behind it", x.digest(), dueThen(25, 0, 0));
+    }
+
+    private static long dueThen(int hour, int comesNow, int comesIn30) {
+        long d = folded(58106, 2, 3, 2, 1, 0, 3, 2, 10, 2, 0, hour);
+        d = folded(d, 255, 0, 1, 3, 219, 1, 0, 0, 10, 2, 1);
+        d = folded(d, 219 - hour);
+        d = folded(d, 0, 1, 0, 0, 0);
+        d = folded(d, 255, 0, 0, -1, -1, 0, 0, 0, 0, 0, 1);
+        d = folded(d, -1);
+        d = folded(d, 0, 0, 0, 0, 0);
+        d = folded(d, 1, 0, 0, -1, -1, 0, 0, 0, 0, 0, 1);
+        d = folded(d, -1);
+        d = folded(d, 0, 0, 0, 0, 0);
+        d = folded(d, 1, 0, 0, 1, 10, 2, 1, 1, 4);
+        d = folded(d, 1);
+        d = folded(d, hour - 3, -1);
+        d = folded(d, comesNow, comesIn30, 1);
+        d = folded(d, 0, 0, 1, 2, 0, 0, 2, 1, 4);
+        d = folded(d, 0, 1);
+        d = folded(d, -1, -1);
+        d = folded(d, 0, 0, 1);
+        d = folded(d, 2, 1, 0, 0, 0, 0, -1, -1, -1);
+        d = folded(d, -1);
+        return folded(d, 0, 0, 0);
     }
 
     private static void nothingIsChanged() {
