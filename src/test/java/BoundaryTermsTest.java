@@ -207,6 +207,9 @@ public final class BoundaryTermsTest {
             SMALL + "call(0, 9) = 9; retire(0, 0, 9); wouldCome(0, 0) = 3; call(0, 2) = 0");
         is("of CALLS that were SERVED: those that were not do not count for the QUOTA",
             SMALL + "retire(0, 0, 9); pass(24); call(0, 20) = 0; pass(2); call(0, 20) = 7; pass(1); call(0, 20) = 7");
+        is("of CALLS that were SERVED: not those that were BROWNED OUT in this HOUR, as it is RECALLED and RETIRED again in it",
+            SMALL + "retire(0, 0, 9); pass(24); call(0, 20) = 0; recall(0, 0); retire(0, 0, 9); wouldCome(0, 0) = 0; call(0, 20) = 8",
+            SMALL + "retire(0, 0, 9); pass(24); call(0, 20) = 0; recall(0, 0); call(0, 3) = 3; retire(0, 0, 9); call(0, 20) = 5");
         is("of this CLIENT: another one of the same OWNER has its own QUOTA",
             SMALL + "client(0, 0, 0, 1); retire(0, 0, 9); call(0, 20) = 8; call(1, 20) = 8");
         is("to it: what was SERVED by another VERSION does not count",
@@ -279,6 +282,9 @@ public final class BoundaryTermsTest {
         is("7 on day 1", SMALL + "retire(0, 0, 9); pass(26); call(0, 20) = 7; pass(21); call(0, 20) = 7");
         is("2 on day 6", SMALL + "retire(0, 0, 9); pass(100); pass(56); call(0, 20) = 2");
         is("1 on day 7", SMALL + "retire(0, 0, 9); pass(100); pass(80); call(0, 20) = 1; pass(11); call(0, 20) = 1");
+        is("its DAY is told from when it BEGAN, not from 0",
+            SMALL + "pass(30); retire(0, 0, 9); call(0, 20) = 8; pass(23); call(0, 20) = 8; pass(3); call(0, 20) = 7; pass(22); "
+                + "wouldCome(0, 0) = 2; pass(4); call(0, 20) = 6");
         is("1 at the least: on day 8, and behind it", SMALL + "retire(0, 0, 9); pass(100); pass(100); pass(4); call(0, 20) = 1; "
             + "pass(11); call(0, 20) = 1; pass(13); ofVersion(0, 0, 7) = 1; call(0, 20) = 1; pass(1); call(0, 1) = 1");
     }

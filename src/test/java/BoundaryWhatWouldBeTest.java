@@ -171,6 +171,8 @@ public final class BoundaryWhatWouldBeTest {
                 + "target(0) = 3; retire(0, 3, 1); target(0) = 2; retire(0, 2, 1); target(0) = 1");
         is("23: the fewest: a smaller number with fewer goes ahead of a greater one",
             "open(); publish(0, 7, 0); publish(0, 3, 0); publish(0, 1, 0); client(0, 0, 0, 7); retire(0, 0, 1); target(0) = 1");
+        is("23: the fewest: a greater number with fewer goes ahead of a smaller one",
+            "open(); publish(0, 7, 0); publish(0, 1, 0); publish(0, 3, 0); client(0, 0, 0, 7); retire(0, 0, 1); target(0) = 2");
         is("23: all 8 FIELDS change, and it is the only one that is OPEN",
             "open(); publish(0, 255, 0); publish(0, 255, 255); client(0, 0, 0, 0); retire(0, 0, 1); target(0) = 1",
             "open(); publish(0, 15, 0); publish(0, 240, 240); client(0, 0, 0, 15); retire(0, 0, 1); target(0) = 1");
@@ -201,6 +203,9 @@ public final class BoundaryWhatWouldBeTest {
         is("24: what is told for what was RETIRED and RECALLED does not count",
             SMALL + "call(0, 1); retire(0, 0, 1); answer(0, 0, 0); pass(5); recall(0, 0); goneBy(0, 0, 1) = 72; pass(18); goneBy(0, 0, 1) = 72; "
                 + "pass(1); goneBy(0, 0, 1) = 24");
+        is("24: what would be if it had been RETIRED ahead of NOW, and was asked of goneBy() then, does not count",
+            SMALL + "call(0, 1); goneBy(0, 0, 9) = 216; pass(72); call(0, 1); goneBy(0, 0, 1) = 72; again(0, 1); goneBy(0, 0, 1) = 24; "
+                + "pass(1); call(0, 1); goneBy(0, 1, 1) = 72");
         is("24: a ROUTE to an OPEN one saves; one back to itself does not, as it would be RETIRING",
             SMALL + "call(0, 1); adapter(0, 0, 1, 0, 0); goneBy(0, 0, 1) = 24; retire(0, 1, 1); goneBy(0, 0, 1) = 72; "
                 + "adapter(0, 1, 0, 0, 0); ofClient(0, 7) = 0; goneBy(0, 0, 1) = 72");
